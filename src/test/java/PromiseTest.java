@@ -217,6 +217,10 @@ public final class PromiseTest {
     refused("remove() without words", x, x::remove, -2);
     due("add(5)", x.add(5), 0);
     dueText("a word added then", division(x), "|1");
+    WhiteRivers y = column(16, 8, 8);
+    y.remove();
+    y.add(2);
+    dueText("a word added where a line was removed", division(y), "|2");
   }
 
   private static void promise6Pull() {
@@ -426,6 +430,8 @@ public final class PromiseTest {
     due("gap(1, 1, 3)", y.gap(1, 1, 3), 1);
     due("gap(1, 1, 2)", y.gap(1, 1, 2), 2);
     due("gap(1, 0, 3) of a gap at 8", column(16, 5, 8, 8, 3).gap(1, 0, 3), 0);
+    due("the wider gap of a later line, gap(1, 0, 1)", crooked().gap(1, 0, 1), 4);
+    due("the other gap of a later line, gap(1, 1, 1)", crooked().gap(1, 1, 1), 3);
     due("gap(0, 0, 0) of a line with one word", column(16, 8, 8).gap(0, 0, 0), -1);
   }
 
@@ -511,7 +517,11 @@ public final class PromiseTest {
     due("plan(1, 0), where the slack hinders", z.plan(1, 0), -4);
     due("plan(1, 4), where the slack hinders", z.plan(1, 4), -1);
     z.undo();
-    due("plan(2, 0) with the slack of before", z.plan(2, 0), 0);
+    due("plan(1, 0) with the slack of before", z.plan(1, 0), 0);
+    WhiteRivers w = push(column(16, 4, 4, 4), 0);
+    due("plan(24, 0) of lines that are joined", w.plan(24, 0), 1);
+    w.freeze(1, 1);
+    due("plan(24, 0), where a frozen line can't be joined", w.plan(24, 0), -4);
   }
 
   private static void duePlan(String name, WhiteRivers x, int length, int... want) {
