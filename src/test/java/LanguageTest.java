@@ -74,19 +74,23 @@ public final class LanguageTest {
       }
       rule(11, fields <= MOST_FIELDS, c.getName() + " has too many fields");
       for (Method m : c.getDeclaredMethods()) {
-        rule(1, !(" " + FACE).contains(" " + m.getName() + "("), m + " bears the name of a public method");
+        boolean isPrivate = Modifier.isPrivate(m.getModifiers());
+        rule(1, !isPrivate || !(" " + FACE).contains(" " + m.getName() + "("), m + " bears the name of a public method");
         rule(11, m.getParameterCount() <= 7, m + " has too many parameters");
       }
     }
   }
 
   private static void lookForWords(String source) {
-    rule(4, !Pattern.compile("(?m)^\\s*(import|package)\\b").matcher(source).find(), "an import or a package line");
-    String words = "throw|throws|try|catch|finally|synchronized|assert|instanceof|var|native|volatile|transient";
-    Matcher m = Pattern.compile("\\b(" + words + ")\\b|->|::|\"").matcher(source);
+    String imports = "import\\s+(?!java\\.util\\.(ArrayList|List|Arrays|Iterator);)";
+    rule(4, !Pattern.compile("(?m)^\\s*(package\\b|" + imports + ")").matcher(source).find(), "an import or a package line");
+    rule(2, !Pattern.compile("->|::").matcher(source).find(), "a lambda or a method reference");
+    Matcher m = Pattern.compile("\\b(throw|throws|try|catch|finally|synchronized|assert)\\b").matcher(source);
     while (m.find()) rule(6, false, m.group());
-    m = Pattern.compile("\\b(System|Thread|Random|Runtime|Class|Object|Integer|Long|Double)\\b|Exact\\b").matcher(source);
+    m = Pattern.compile("\\bSystem\\.(?!arraycopy\\b)\\w+|\\w+Exact\\b").matcher(source);
     while (m.find()) rule(4, false, m.group());
+    m = Pattern.compile("\\b(Thread|Random|Runtime|Scanner|ThreadLocal)\\b|\\brandom\\b").matcher(source);
+    while (m.find()) rule(13, false, m.group());
     m = Pattern.compile("while \\(true\\)|for \\(;").matcher(source);
     while (m.find()) rule(9, false, m.group());
   }

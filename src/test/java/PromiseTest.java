@@ -1,87 +1,25 @@
 import java.util.function.IntSupplier;
 
-/** For each promise of the document its ordinary inputs, its edges and its wrong inputs. */
-public final class PromiseTest {
-  private static final int[] WRONG = {Integer.MIN_VALUE, -1000, -1, 1000, Integer.MAX_VALUE};
-
-  private static int promise = 0;
-  private static int wrong = 0;
-
+/** Each promise of the document at work: ordinary calls in a row, some edges, and wrong inputs. */
+public final class PromiseTest extends Cases {
   public static void main(String[] args) {
-    promise1NewObject();
-    promise2SetWidth();
-    promise3SetSlack();
-    promise4Add();
-    promise5Remove();
-    promise6Pull();
-    promise7Push();
-    promise8Freeze();
-    promise9Reflow();
-    promise10Count();
-    promise11Word();
-    promise12Line();
-    promise13Undo();
-    promise14Gap();
-    promise15River();
-    promise16At();
-    promise17Plan();
-    promise18Planned();
-    promise19Dam();
-    promise20LeastRiver();
-    promise21Type();
-    promise22ClearText();
-    promise23Fault();
-    promise24Read();
-    System.out.println(wrong == 0 ? "promises: all answers are as due" : "promises: " + wrong + " answers are not as due");
-    if (wrong != 0) System.exit(1);
+    runAll(PromiseTest.class);
   }
 
-  private static void due(String call, int got, int want) {
-    if (got != want) {
-      wrong++;
-      System.out.println("promise " + promise + ": " + call + " answered " + got + ", due is " + want);
-    }
-  }
-
-  private static void dueText(String what, String got, String want) {
-    if (!got.equals(want)) {
-      wrong++;
-      System.out.println("promise " + promise + ": " + what + " is " + got + ", due is " + want);
-    }
-  }
-
-  /** An error is due, and that it changes nothing. */
+  /** An error is due, and that the object stays as it is. */
   private static void refused(String call, WhiteRivers x, IntSupplier asked, int want) {
-    String before = state(x);
+    String before = brief(x);
     due(call, asked.getAsInt(), want);
-    dueText("the state after " + call, state(x), before);
+    dueText("what there is after " + call, brief(x), before);
   }
 
-  private static String state(WhiteRivers x) {
-    StringBuilder s = new StringBuilder();
-    for (int what = 0; what <= 11; what++) s.append(x.count(what)).append(' ');
-    return s.append(words(x)).append(division(x)).append(' ').append(x.fault()).toString();
+  private static String brief(WhiteRivers x) {
+    return division(x) + " " + x.count(0) + " " + x.count(2) + " " + x.count(3) + " " + x.count(9) + " " + x.count(10);
   }
 
-  private static String words(WhiteRivers x) {
-    StringBuilder s = new StringBuilder();
-    for (int word = 0; word < x.count(0); word++) s.append(x.word(word, 0));
-    return s.toString();
-  }
-
-  /** The number of words of each line, with a star behind a frozen one. */
-  private static String division(WhiteRivers x) {
-    StringBuilder s = new StringBuilder();
-    for (int line = 0; line < x.count(1); line++) {
-      s.append('|').append(x.line(line, 1)).append(x.line(line, 5) == 1 ? "*" : "");
-    }
-    return s.toString();
-  }
-
-  private static String plannedDivision(WhiteRivers x, int length) {
-    StringBuilder s = new StringBuilder();
-    for (int line = 0; x.planned(length, line) > 0; line++) s.append('|').append(x.planned(length, line));
-    return s.toString();
+  /** What the history keeps of an object. */
+  private static String kept(WhiteRivers x) {
+    return words(x) + division(x) + " " + x.count(2) + " " + x.count(3);
   }
 
   private static WhiteRivers column(int width, int... lengths) {
@@ -94,10 +32,6 @@ public final class PromiseTest {
   private static WhiteRivers push(WhiteRivers x, int... lines) {
     for (int line : lines) due("push(" + line + ")", x.push(line) > 0 ? 1 : 0, 1);
     return x;
-  }
-
-  private static void typeAll(WhiteRivers x, String text) {
-    for (int i = 0; i < text.length(); i++) x.type(text.charAt(i));
   }
 
   /** Lines of 3, 2 and 2 words: gaps at 3..6 and 10..12, at 1..14, and at 5. */
@@ -117,8 +51,7 @@ public final class PromiseTest {
     return x;
   }
 
-  private static void promise1NewObject() {
-    promise = 1;
+  static void promise1NewObject() {
     WhiteRivers x = new WhiteRivers();
     dueText("the state", state(x), "0 0 24 6 0 0 0 0 0 0 0 0  -4");
     due("word(0, 0)", x.word(0, 0), -1);
@@ -131,14 +64,13 @@ public final class PromiseTest {
     due("NOT_FOUND", WhiteRivers.NOT_FOUND, -4);
   }
 
-  private static void promise2SetWidth() {
-    promise = 2;
+  static void promise2SetWidth() {
     WhiteRivers x = column(24, 8, 8, 8, 8);
     due("count(1)", x.count(1), 2);
     due("setWidth(26)", x.setWidth(26), 2);
-    dueText("the division", division(x), "|3|1");
+    dueDivision(x, "|3|1");
     due("setWidth(25)", x.setWidth(25), 2);
-    dueText("the division", division(x), "|2|2");
+    dueDivision(x, "|2|2");
     due("setWidth(35)", x.setWidth(35), 1);
     due("setWidth(34)", x.setWidth(34), 2);
     due("setWidth(16)", x.setWidth(16), 4);
@@ -150,7 +82,6 @@ public final class PromiseTest {
     due("setWidth(16) without words", new WhiteRivers().setWidth(16), 0);
     refused("setWidth(15)", x, () -> x.setWidth(15), -1);
     refused("setWidth(41)", x, () -> x.setWidth(41), -1);
-    for (int width : WRONG) refused("setWidth(" + width + ")", x, () -> x.setWidth(width), -1);
     x.freeze(0, 1);
     refused("setWidth(30) with a frozen line", x, () -> x.setWidth(30), -2);
     refused("setWidth(15) with a frozen line", x, () -> x.setWidth(15), -1);
@@ -158,8 +89,7 @@ public final class PromiseTest {
     due("setWidth(30) with a thawed line", x.setWidth(30), 2);
   }
 
-  private static void promise3SetSlack() {
-    promise = 3;
+  static void promise3SetSlack() {
     WhiteRivers x = new WhiteRivers();
     due("setSlack(0)", x.setSlack(0), 6);
     due("setSlack(8)", x.setSlack(8), 0);
@@ -167,29 +97,26 @@ public final class PromiseTest {
     due("count(3)", x.count(3), 8);
     due("count(9)", x.count(9), 3);
     refused("setSlack(9)", x, () -> x.setSlack(9), -1);
-    for (int slack : WRONG) refused("setSlack(" + slack + ")", x, () -> x.setSlack(slack), -1);
     WhiteRivers y = single();
     y.freeze(0, 1);
     due("setSlack(3) with a frozen line", y.setSlack(3), 8);
-    dueText("the division", division(y), "|1*|1|1|1");
+    dueDivision(y, "|1*|1|1|1");
   }
 
-  private static void promise4Add() {
-    promise = 4;
+  static void promise4Add() {
     WhiteRivers x = column(16);
     due("add(8)", x.add(8), 0);
     due("add(7)", x.add(7), 1);
     dueText("a line that is just full", division(x), "|2");
     due("add(1)", x.add(1), 2);
-    dueText("the division", division(x), "|2|1");
+    dueDivision(x, "|2|1");
     x.freeze(1, 1);
     due("add(1) behind a frozen line", x.add(1), 3);
-    dueText("the division", division(x), "|2|1*|1");
+    dueDivision(x, "|2|1*|1");
     due("add(1) behind a line behind a frozen one", x.add(1), 4);
-    dueText("the division", division(x), "|2|1*|2");
+    dueDivision(x, "|2|1*|2");
     refused("add(0)", x, () -> x.add(0), -1);
     refused("add(9)", x, () -> x.add(9), -1);
-    for (int length : WRONG) refused("add(" + length + ")", x, () -> x.add(length), -1);
     for (int word = 5; word < 24; word++) due("add(2)", x.add(2), word);
     refused("add(1) to 24 words", x, () -> x.add(1), -3);
     refused("add(9) to 24 words", x, () -> x.add(9), -1);
@@ -199,18 +126,17 @@ public final class PromiseTest {
     dueText("lines before the last one stay", division(y), "|2|2");
   }
 
-  private static void promise5Remove() {
-    promise = 5;
+  static void promise5Remove() {
     WhiteRivers x = column(16, 8, 7, 3);
     due("remove()", x.remove(), 2);
-    dueText("the division", division(x), "|2");
+    dueDivision(x, "|2");
     due("remove()", x.remove(), 1);
-    dueText("the division", division(x), "|1");
+    dueDivision(x, "|1");
     x.freeze(0, 1);
     refused("remove() of a frozen line", x, x::remove, -2);
     x.add(2);
     due("remove() behind a frozen line", x.remove(), 1);
-    dueText("the division", division(x), "|1*");
+    dueDivision(x, "|1*");
     x.freeze(0, 0);
     due("remove() of the only word", x.remove(), 0);
     due("count(1)", x.count(1), 0);
@@ -223,18 +149,16 @@ public final class PromiseTest {
     dueText("a word added where a line was removed", division(y), "|2");
   }
 
-  private static void promise6Pull() {
-    promise = 6;
+  static void promise6Pull() {
     WhiteRivers x = push(column(16, 4, 4, 4, 4, 4), 0, 1, 1);
-    dueText("the division", division(x), "|2|1|2");
+    dueDivision(x, "|2|1|2");
     due("pull(0)", x.pull(0), 2);
     dueText("a line without words is none", division(x), "|3|2");
     refused("pull(0), which would not fit", x, () -> x.pull(0), -2);
     refused("pull(1) of the last line", x, () -> x.pull(1), -2);
     refused("pull(2)", x, () -> x.pull(2), -1);
-    for (int line : WRONG) refused("pull(" + line + ")", x, () -> x.pull(line), -1);
     WhiteRivers y = push(column(16, 2, 2, 2, 2, 2), 0, 0, 0, 1);
-    dueText("the division", division(y), "|2|2|1");
+    dueDivision(y, "|2|2|1");
     y.freeze(2, 1);
     refused("pull(1) from a frozen line", y, () -> y.pull(1), -2);
     due("pull(0)", y.pull(0), 3);
@@ -248,21 +172,19 @@ public final class PromiseTest {
     WhiteRivers z = push(column(16, 8, 7), 0);
     due("pull(0) to the width", z.pull(0), 1);
     due("count(9)", z.count(9), 5);
-    refused("pull(0) without words", new WhiteRivers(), () -> new WhiteRivers().pull(0), -1);
+    due("pull(0) without words", new WhiteRivers().pull(0), -1);
   }
 
-  private static void promise7Push() {
-    promise = 7;
+  static void promise7Push() {
     WhiteRivers x = column(16, 4, 4, 4, 4, 4);
-    dueText("the division", division(x), "|3|2");
+    dueDivision(x, "|3|2");
     due("push(0)", x.push(0), 2);
-    dueText("the division", division(x), "|2|3");
+    dueDivision(x, "|2|3");
     refused("push(0), after which the next line would not fit", x, () -> x.push(0), -2);
     due("push(1) of the last line", x.push(1), 3);
-    dueText("the division", division(x), "|2|2|1");
+    dueDivision(x, "|2|2|1");
     refused("push(2) of a line with one word", x, () -> x.push(2), -2);
     refused("push(3)", x, () -> x.push(3), -1);
-    for (int line : WRONG) refused("push(" + line + ")", x, () -> x.push(line), -1);
     x.freeze(1, 1);
     refused("push(0) to a frozen line", x, () -> x.push(0), -2);
     refused("push(1) of a frozen line", x, () -> x.push(1), -2);
@@ -270,24 +192,23 @@ public final class PromiseTest {
     x.freeze(2, 1);
     refused("push(1) to a frozen last line", x, () -> x.push(1), -2);
     due("push(0)", x.push(0), 3);
-    dueText("the division", division(x), "|1|3|1*");
+    dueDivision(x, "|1|3|1*");
     WhiteRivers y = push(column(16, 8, 7), 0);
     y.undo();
     y.freeze(0, 1);
     refused("push(0) of a frozen last line", y, () -> y.push(0), -2);
     WhiteRivers z = column(16, 8, 1, 8, 5);
     due("push(0) to the width", z.push(0), 2);
-    dueText("the division", division(z), "|1|3");
+    dueDivision(z, "|1|3");
     due("line(1, 2)", z.line(1, 2), 0);
   }
 
-  private static void promise8Freeze() {
-    promise = 8;
+  static void promise8Freeze() {
     WhiteRivers x = single();
     due("freeze(1, 1)", x.freeze(1, 1), 0);
     due("freeze(1, 1) again", x.freeze(1, 1), 1);
     due("count(8)", x.count(8), 1);
-    dueText("the division", division(x), "|1|1*|1|1");
+    dueDivision(x, "|1|1*|1|1");
     due("freeze(3, 0) of a line not frozen", x.freeze(3, 0), 0);
     due("freeze(1, 0)", x.freeze(1, 0), 1);
     due("freeze(1, 0) again", x.freeze(1, 0), 0);
@@ -295,18 +216,13 @@ public final class PromiseTest {
     due("count(9)", x.count(9), 5);
     refused("freeze(4, 1)", x, () -> x.freeze(4, 1), -1);
     refused("freeze(0, 2)", x, () -> x.freeze(0, 2), -1);
-    for (int n : WRONG) {
-      refused("freeze(" + n + ", 1)", x, () -> x.freeze(n, 1), -1);
-      refused("freeze(0, " + n + ")", x, () -> x.freeze(0, n), -1);
-    }
-    refused("freeze(0, 1) without words", new WhiteRivers(), () -> new WhiteRivers().freeze(0, 1), -1);
+    due("freeze(0, 1) without words", new WhiteRivers().freeze(0, 1), -1);
   }
 
-  private static void promise9Reflow() {
-    promise = 9;
+  static void promise9Reflow() {
     WhiteRivers x = joined();
     due("reflow()", x.reflow(), 2);
-    dueText("the division", division(x), "|5|2");
+    dueDivision(x, "|5|2");
     due("reflow() again", x.reflow(), 2);
     due("count(9)", x.count(9), 5);
     x.freeze(1, 1);
@@ -316,15 +232,13 @@ public final class PromiseTest {
     due("count(9)", y.count(9), 1);
   }
 
-  private static void promise10Count() {
-    promise = 10;
+  static void promise10Count() {
     WhiteRivers x = joined();
-    typeAll(x, "ab c");
+    typed(x, "ab c");
     x.freeze(1, 1);
     int[] want = {7, 3, 16, 6, 25 + 169, 3, 4, 1, 1, 5, 4, 1};
     for (int what = 0; what < want.length; what++) due("count(" + what + ")", x.count(what), want[what]);
     due("count(12)", x.count(12), -1);
-    for (int what : WRONG) due("count(" + what + ")", x.count(what), -1);
     WhiteRivers y = column(16, 1, 1, 1);
     due("count(5) of one line", y.count(5), 1);
     due("count(11) of one line", y.count(11), 2);
@@ -335,8 +249,7 @@ public final class PromiseTest {
     due("count(7) without gaps", z.count(7), 0);
   }
 
-  private static void promise11Word() {
-    promise = 11;
+  static void promise11Word() {
     WhiteRivers x = joined();
     int[] lengths = {3, 3, 3, 1, 1, 5, 5};
     int[] lines = {0, 0, 0, 1, 1, 2, 2};
@@ -348,14 +261,9 @@ public final class PromiseTest {
     }
     due("word(7, 0)", x.word(7, 0), -1);
     due("word(0, 3)", x.word(0, 3), -1);
-    for (int n : WRONG) {
-      due("word(" + n + ", 0)", x.word(n, 0), -1);
-      due("word(0, " + n + ")", x.word(0, n), -1);
-    }
   }
 
-  private static void promise12Line() {
-    promise = 12;
+  static void promise12Line() {
     WhiteRivers x = joined();
     x.freeze(2, 1);
     int[][] want = {{0, 3, 5, 25, 2, 0, 1}, {3, 2, 13, 169, 1, 0, 2}, {5, 2, 5, 0, 1, 1, 3}};
@@ -364,18 +272,13 @@ public final class PromiseTest {
     }
     due("line(3, 0)", x.line(3, 0), -1);
     due("line(0, 7)", x.line(0, 7), -1);
-    for (int n : WRONG) {
-      due("line(" + n + ", 0)", x.line(n, 0), -1);
-      due("line(0, " + n + ")", x.line(0, n), -1);
-    }
     WhiteRivers y = column(16, 8, 8);
     due("line(0, 2) of one word", y.line(0, 2), 8);
     due("line(0, 4) of one word", y.line(0, 4), 0);
     due("line(0, 6) of one word", y.line(0, 6), 0);
   }
 
-  private static void promise13Undo() {
-    promise = 13;
+  static void promise13Undo() {
     WhiteRivers x = new WhiteRivers();
     refused("undo() without history", x, x::undo, -2);
     for (int length = 1; length <= 6; length++) x.add(length);
@@ -385,24 +288,22 @@ public final class PromiseTest {
     refused("undo() of the dropped state", x, x::undo, -2);
     WhiteRivers y = joined();
     y.freeze(0, 1);
-    String before = state(y);
+    String before = kept(y);
     y.setSlack(2);
     y.freeze(0, 0);
     y.setWidth(40);
     y.remove();
-    typeAll(y, "a");
+    typed(y, "a");
     y.read();
     due("plan(1, 1) of one word", y.plan(1, 1), 1);
     for (int left = 4; left >= 0; left--) due("undo()", y.undo(), left);
     due("the text stays", y.clearText(), 1);
-    // The history is another one now: that place of the state is left out.
-    dueText("the state", state(y).replaceFirst(" 1 0 0 1 ", " 1 5 0 1 "), before);
+    dueText("what a state keeps", kept(y), before);
     due("plan(2, 0) is that of the restored lines", y.plan(2, 0), 1);
     due("plan(2, 2)", y.plan(2, 2), 25);
   }
 
-  private static void promise14Gap() {
-    promise = 14;
+  static void promise14Gap() {
     WhiteRivers x = joined();
     int[][] want = {{3, 4, 1, 0, 1}, {10, 3, 1, 0, 1}, {1, 14, 2, 2, 1}, {5, 1, 3, 1, 0}};
     for (int what = 0; what <= 4; what++) {
@@ -415,11 +316,6 @@ public final class PromiseTest {
     due("gap(1, 1, 0)", x.gap(1, 1, 0), -1);
     due("gap(3, 0, 0)", x.gap(3, 0, 0), -1);
     due("gap(0, 0, 5)", x.gap(0, 0, 5), -1);
-    for (int n : WRONG) {
-      due("gap(" + n + ", 0, 0)", x.gap(n, 0, 0), -1);
-      due("gap(0, " + n + ", 0)", x.gap(0, n, 0), -1);
-      due("gap(0, 0, " + n + ")", x.gap(0, 0, n), -1);
-    }
     // A gap at 5..7, and gaps at 4 and 7: those at 4 and 5 lie side by side, but have no common column.
     WhiteRivers y = column(16, 5, 8, 4, 2, 8);
     due("gap(0, 0, 1)", y.gap(0, 0, 1), 3);
@@ -435,8 +331,7 @@ public final class PromiseTest {
     due("gap(0, 0, 0) of a line with one word", column(16, 8, 8).gap(0, 0, 0), -1);
   }
 
-  private static void promise15River() {
-    promise = 15;
+  static void promise15River() {
     WhiteRivers x = joined();
     int[][] want = {{2, 0}, {1, 0}, {0, 0}};
     for (int index = 0; index < 3; index++) {
@@ -449,7 +344,6 @@ public final class PromiseTest {
     due("river(MIN, 0)", x.river(Integer.MIN_VALUE, 0), -1);
     due("river(0, 2)", x.river(0, 2), -1);
     due("river(3, 2)", x.river(3, 2), -1);
-    for (int what : WRONG) due("river(0, " + what + ")", x.river(0, what), -1);
     WhiteRivers y = crooked();
     int[][] bent = {{3, 0}, {2, 0}, {1, 1}, {0, 0}};
     for (int index = 0; index < 4; index++) {
@@ -463,8 +357,7 @@ public final class PromiseTest {
     due("river(0, 0) without gaps", column(16, 8).river(0, 0), -4);
   }
 
-  private static void promise16At() {
-    promise = 16;
+  static void promise16At() {
     WhiteRivers x = joined();
     int[][] rows = {
       {0, 0, 0, -4, -4, -4, -4, 1, 1, 1, -4, -4, -4, 2, 2, 2},
@@ -478,15 +371,10 @@ public final class PromiseTest {
     }
     due("at(0, 16)", x.at(0, 16), -1);
     due("at(3, 0)", x.at(3, 0), -1);
-    for (int n : WRONG) {
-      due("at(" + n + ", 0)", x.at(n, 0), -1);
-      due("at(0, " + n + ")", x.at(0, n), -1);
-    }
     due("at(0, 39) of a wide column", column(40, 1).at(0, 39), -4);
   }
 
-  private static void promise17Plan() {
-    promise = 17;
+  static void promise17Plan() {
     for (int what = 0; what <= 3; what++) due("plan(24, " + what + ") without words", new WhiteRivers().plan(24, what), 0);
     duePlan("lines that can't be others", column(16, 5, 5, 5, 5, 5, 5), 3, 0, 3, 50, 3);
     due("plan(2, 0), where the river is longer", column(16, 5, 5, 5, 5, 5, 5).plan(2, 0), -4);
@@ -509,10 +397,6 @@ public final class PromiseTest {
     due("plan(0, 0)", z.plan(0, 0), -1);
     due("plan(25, 0)", z.plan(25, 0), -1);
     due("plan(1, 4)", z.plan(1, 4), -1);
-    for (int n : WRONG) {
-      due("plan(" + n + ", 0)", z.plan(n, 0), -1);
-      due("plan(1, " + n + ")", z.plan(1, n), -1);
-    }
     z.setSlack(0);
     due("plan(1, 0), where the slack hinders", z.plan(1, 0), -4);
     due("plan(1, 4), where the slack hinders", z.plan(1, 4), -1);
@@ -530,8 +414,7 @@ public final class PromiseTest {
     dueText(name + ": the state", state(x), before);
   }
 
-  private static void promise18Planned() {
-    promise = 18;
+  static void promise18Planned() {
     WhiteRivers x = single();
     due("planned(1, 0)", x.planned(1, 0), 2);
     due("planned(1, 1)", x.planned(1, 1), 1);
@@ -542,26 +425,24 @@ public final class PromiseTest {
     due("planned(1, MIN)", x.planned(1, Integer.MIN_VALUE), -1);
     due("planned(0, 0)", x.planned(0, 0), -1);
     due("planned(25, 0)", x.planned(25, 0), -1);
-    for (int length : WRONG) due("planned(" + length + ", 0)", x.planned(length, 0), -1);
-    dueText("the division", division(x), "|1|1|1|1");
+    dueDivision(x, "|1|1|1|1");
     WhiteRivers y = joined();
     y.setSlack(8);
-    dueText("the best division", plannedDivision(y, 24), "|5|2");
+    dueText("the best division", planned(y, 24), "|5|2");
     y.freeze(0, 1);
-    dueText("the best division beside a frozen line", plannedDivision(y, 24), "|3|4");
+    dueText("the best division beside a frozen line", planned(y, 24), "|3|4");
     due("planned(1, 0) without a division", y.planned(1, 0), -4);
     due("planned(1, -1) without a division", y.planned(1, -1), -1);
     due("planned(1, 0) without words", new WhiteRivers().planned(1, 0), -4);
   }
 
-  private static void promise19Dam() {
-    promise = 19;
+  static void promise19Dam() {
     WhiteRivers x = joined();
     x.setSlack(8);
     x.freeze(0, 1);
     refused("dam(1) without a division", x, () -> x.dam(1), -2);
     due("dam(2)", x.dam(2), 1);
-    dueText("the division", division(x), "|3*|4");
+    dueDivision(x, "|3*|4");
     due("count(5)", x.count(5), 2);
     due("dam(2) again", x.dam(2), 0);
     due("undo()", x.undo(), 4);
@@ -569,22 +450,20 @@ public final class PromiseTest {
     dueText("the division of before", division(x), "|3*|2|2");
     refused("dam(0)", x, () -> x.dam(0), -1);
     refused("dam(25)", x, () -> x.dam(25), -1);
-    for (int length : WRONG) refused("dam(" + length + ")", x, () -> x.dam(length), -1);
     x.freeze(0, 0);
     due("dam(24)", x.dam(24), 1);
-    dueText("the division", division(x), "|5|2");
+    dueDivision(x, "|5|2");
     WhiteRivers y = single();
     y.freeze(3, 1);
     due("dam(1) above a frozen line", y.dam(1), 1);
-    dueText("the division", division(y), "|2|1|1*");
+    dueDivision(y, "|2|1|1*");
     due("plan(1, 0) is that of the new lines", y.plan(1, 0), 0);
     WhiteRivers z = new WhiteRivers();
     due("dam(1) without words", z.dam(1), 0);
     due("count(9)", z.count(9), 1);
   }
 
-  private static void promise20LeastRiver() {
-    promise = 20;
+  static void promise20LeastRiver() {
     due("leastRiver() without words", new WhiteRivers().leastRiver(), 1);
     due("leastRiver() without gaps", column(16, 8).leastRiver(), 1);
     WhiteRivers x = column(16, 5, 5, 5, 5, 5, 5);
@@ -602,14 +481,12 @@ public final class PromiseTest {
     due("plan(24, 2) after it", y.plan(24, 2), 25);
   }
 
-  private static void promise21Type() {
-    promise = 21;
+  static void promise21Type() {
     WhiteRivers x = new WhiteRivers();
     due("type(32)", x.type(32), 1);
     due("type(126)", x.type(126), 2);
     refused("type(31)", x, () -> x.type(31), -1);
     refused("type(127)", x, () -> x.type(127), -1);
-    for (int character : WRONG) refused("type(" + character + ")", x, () -> x.type(character), -1);
     for (int length = 3; length <= 100; length++) due("type(97)", x.type(97), length);
     refused("type(97) behind 100 characters", x, () -> x.type(97), -3);
     refused("type(127) behind 100 characters", x, () -> x.type(127), -1);
@@ -617,11 +494,10 @@ public final class PromiseTest {
     due("count(10)", x.count(10), 100);
   }
 
-  private static void promise22ClearText() {
-    promise = 22;
+  static void promise22ClearText() {
     WhiteRivers x = new WhiteRivers();
     due("clearText() of no text", x.clearText(), 0);
-    typeAll(x, "  a");
+    typed(x, "  a");
     due("clearText()", x.clearText(), 3);
     due("clearText() again", x.clearText(), 0);
     due("count(10)", x.count(10), 0);
@@ -631,8 +507,7 @@ public final class PromiseTest {
     due("fault()", x.fault(), -4);
   }
 
-  private static void promise23Fault() {
-    promise = 23;
+  static void promise23Fault() {
     dueFault("", -4);
     dueFault("a", -4);
     dueFault(" ", 0);
@@ -656,20 +531,19 @@ public final class PromiseTest {
 
   private static void dueFault(String text, int want) {
     WhiteRivers x = new WhiteRivers();
-    typeAll(x, text);
+    typed(x, text);
     due("fault() of '" + text + "'", x.fault(), want);
     due("read() of '" + text + "'", x.read() < 0 ? 1 : 0, want < 0 ? 0 : 1);
   }
 
-  private static void promise24Read() {
-    promise = 24;
+  static void promise24Read() {
     WhiteRivers x = joined();
     x.freeze(0, 1);
     x.freeze(2, 1);
     String before = words(x) + division(x);
-    typeAll(x, "abcdefgh ijklmno pq r ");
+    typed(x, "abcdefgh ijklmno pq r ");
     refused("read() of a text with a fault", x, x::read, -2);
-    typeAll(x, "stu");
+    typed(x, "stu");
     due("read()", x.read(), 5);
     dueText("words and lines", words(x) + division(x), "87213|2|3");
     due("count(2)", x.count(2), 16);
