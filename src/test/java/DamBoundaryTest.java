@@ -347,6 +347,15 @@ public final class DamBoundaryTest extends Cases {
     dueDivision(x, "|1*|1*|1*");
   }
 
+  static void aWordAddedWhereALineWasDammedAway() {
+    WhiteRivers x = lines(16, "1", "1", "1");
+    due("dam(24)", x.dam(24), 1);
+    x.remove();
+    x.add(1);
+    x.add(1);
+    dueDivision(x, "|4");
+  }
+
   static void damThatChangesNoLine() {
     WhiteRivers x = stiff(3);
     due("dam(3)", x.dam(3), 0);

@@ -322,7 +322,32 @@ public final class LineBoundaryTest extends Cases {
     due("count(4)", x.count(4), 23 * 39 * 39);
   }
 
+  // "All lines fit, always."
+  static void allLinesFitWhenNothingMoreCanBePushedOrPulled() {
+    WhiteRivers x = lines(16, "4 4 4", "3 3 3 3", "2 2 2 2 2", "5 5");
+    for (int line = 0; line < 4; line++) {
+      for (int time = 0; time < 6; time++) x.push(line);
+      for (int time = 0; time < 6; time++) x.pull(0);
+    }
+    int lines = x.count(1);
+    for (int line = 0; line < lines; line++) {
+      due("the extra of line " + line + " is 0 or more", x.line(line, 2) >= 0 ? 1 : 0, 1);
+      due("line " + line + " has a word", x.line(line, 1) >= 1 ? 1 : 0, 1);
+    }
+    dueText("the words", words(x), "44433332222255");
+  }
+
   // Promise 2: "Sets the width, and fills all lines greedily."
+  static void theNarrowestAndTheWidestColumn() {
+    WhiteRivers x = lines(20, "8 8", "8");
+    x.setWidth(16);
+    due("count(2)", x.count(2), 16);
+    dueDivision(x, "|1|1|1");
+    x.setWidth(40);
+    due("count(2)", x.count(2), 40);
+    dueDivision(x, "|3");
+  }
+
   static void setWidthToTheSameWidthFillsLines() {
     WhiteRivers x = lines(24, "4", "4");
     due("setWidth(24)", x.setWidth(24), 1);
@@ -353,6 +378,11 @@ public final class LineBoundaryTest extends Cases {
     due("setSlack(0)", x.setSlack(0), 8);
     due("setSlack(0)", x.setSlack(0), 0);
     due("count(3)", x.count(3), 0);
+  }
+
+  static void theLeastAndTheMostSlack() {
+    due("count(3)", slack(0, new WhiteRivers()).count(3), 0);
+    due("count(3)", slack(8, new WhiteRivers()).count(3), 8);
   }
 
   static void setSlackWithAllLinesFrozen() {
@@ -487,6 +517,22 @@ public final class LineBoundaryTest extends Cases {
     WhiteRivers x = lines(16, "1", "1");
     due("pull(0)", x.pull(0), 1);
     dueDivision(x, "|2");
+  }
+
+  static void aWordAddedWhereALineWasPulledAway() {
+    WhiteRivers x = lines(16, "1", "1");
+    x.pull(0);
+    due("add(1)", x.add(1), 2);
+    dueDivision(x, "|3");
+  }
+
+  static void aWordAddedWhereALineWasFilledAway() {
+    WhiteRivers x = lines(16, "1", "1", "1");
+    x.reflow();
+    x.remove();
+    x.add(1);
+    x.add(1);
+    dueDivision(x, "|4");
   }
 
   static void pullTheOnlyWordOfALineBeforeOthers() {
